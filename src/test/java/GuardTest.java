@@ -213,6 +213,7 @@ final class GuardTest {
     private static CrossingDesk flashing() {
         CrossingDesk x = new CrossingDesk();
         x.set(0, 5, 9);
+        x.set(0, 6, 30);
         x.push(0);
         x.car(0, 1);
         x.run(3);
