@@ -2,28 +2,32 @@ import java.util.Random;
 
 /** All promises: many runs of calls by chance, always the same ones, against the plain model. */
 final class ModelTest {
-    private static final int RUNS = 1500;
-    private static final int CALLS = 500;
+    private static final int RUNS = 12000;
+    private static final int QUESTIONS_BETWEEN = 3;
     private static final int[] ODD = {Integer.MIN_VALUE, -2, -1, 0, 1, 2, 3, 7, 8, 9, 63, 64, 500, 501,
         Integer.MAX_VALUE};
-    private static final Due due = new Due();
+    private static final Due due = new Due("all promises, by chance");
 
     public static void main(String[] args) {
+        due.test("runs of calls as in the plain model", ModelTest::compareRuns);
+        due.end();
+    }
+
+    private static void compareRuns() {
         for (int run = 0; run < RUNS; run++) {
             compareOneRun(run);
         }
-        due.end();
     }
 
     private static void compareOneRun(int run) {
         Random chance = new Random(run);
-        CrossingDesk x = new CrossingDesk();
+        Desk x = new Desk();
         PlainModel y = new PlainModel();
         boolean stuckLamps = run % 3 == 0;
         boolean shortTimes = run % 2 == 0;
         prepare(chance, x, y, shortTimes);
-        for (int call = 0; call < CALLS; call++) {
-            String where = "run " + run + ", call " + call + ": ";
+        while (x.callsLeft() > 1 + QUESTIONS_BETWEEN + Answers.COUNT) {
+            String where = "run " + run + ", " + x.callsLeft() + " calls before its end: ";
             int kind = chance.nextInt(100);
             if (kind < 35) {
                 int ticks = 1 + chance.nextInt(chance.nextInt(10) == 0 ? 60 : 4);
@@ -33,11 +37,16 @@ final class ModelTest {
             } else {
                 stickOrRestart(chance, where, x, y);
             }
-            compareAll(where, x, y);
+            for (int i = 0; i < QUESTIONS_BETWEEN; i++) {
+                compareAnswer(chance.nextInt(Answers.COUNT), where, x, y);
+            }
+        }
+        for (int question = 0; question < Answers.COUNT; question++) {
+            compareAnswer(question, "run " + run + ", at its end: ", x, y);
         }
     }
 
-    private static void prepare(Random chance, CrossingDesk x, PlainModel y, boolean shortTimes) {
+    private static void prepare(Random chance, Desk x, PlainModel y, boolean shortTimes) {
         int sort = chance.nextInt(4);
         for (int p = 0; p < 8; p++) {
             int modes = sort == 0 ? 3 : sort == 1 ? 1 + 2 * chance.nextInt(2) : chance.nextInt(64) | 1;
@@ -52,7 +61,7 @@ final class ModelTest {
         }
     }
 
-    private static void oneCall(Random chance, String where, CrossingDesk x, PlainModel y, boolean shortTimes) {
+    private static void oneCall(Random chance, String where, Desk x, PlainModel y, boolean shortTimes) {
         int p = chance.nextInt(8);
         int kind = chance.nextInt(40);
         if (kind < 24) {
@@ -78,7 +87,7 @@ final class ModelTest {
         }
     }
 
-    private static void stickOrRestart(Random chance, String where, CrossingDesk x, PlainModel y) {
+    private static void stickOrRestart(Random chance, String where, Desk x, PlainModel y) {
         if (chance.nextInt(2) == 0) {
             due.is(where + "restart()", x.restart(), y.restart());
             return;
@@ -88,7 +97,7 @@ final class ModelTest {
         due.is(where + "stick(" + p + ", " + light + ")", x.stick(p, light), y.stick(p, light));
     }
 
-    private static void oddCall(Random chance, String where, CrossingDesk x, PlainModel y) {
+    private static void oddCall(Random chance, String where, Desk x, PlainModel y) {
         int a = ODD[chance.nextInt(ODD.length)];
         int b = ODD[chance.nextInt(ODD.length)];
         int c = ODD[chance.nextInt(ODD.length)];
@@ -105,21 +114,7 @@ final class ModelTest {
         }
     }
 
-    private static void compareAll(String where, CrossingDesk x, PlainModel y) {
-        for (int p = 0; p < 8; p++) {
-            for (int what = 0; what < 9; what++) {
-                due.is(where + "of " + p + " " + what, x.of(p, what), y.of(p, what));
-            }
-        }
-        for (int r = 0; r < 2; r++) {
-            for (int what = 0; what < 7; what++) {
-                due.is(where + "ring " + r + " " + what, x.ring(r, what), y.ring(r, what));
-            }
-        }
-        for (int what = 0; what < 5; what++) {
-            due.is(where + "state " + what, x.state(what), y.state(what));
-        }
-        due.is(where + "check()", x.check(), y.check());
-        due.is(where + "check() holds", x.check(), 1);
+    private static void compareAnswer(int question, String where, Desk x, PlainModel y) {
+        due.is(where + Answers.name(question), Answers.one(x, question), y.answer(question));
     }
 }

@@ -354,4 +354,15 @@ final class PlainModel {
         }
         return blocked(lit) ? 0 : 1;
     }
+
+    /** The questions in the order of Answers. */
+    int answer(int question) {
+        if (question < Answers.RING) {
+            return of(question / 9, question % 9);
+        }
+        if (question < Answers.TIME) {
+            return ring((question - Answers.RING) / 7, (question - Answers.RING) % 7);
+        }
+        return question < Answers.CHECK ? state(question - Answers.TIME) : check();
+    }
 }
