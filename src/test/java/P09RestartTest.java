@@ -18,7 +18,8 @@ final class P09RestartTest {
         due.test("the guard has seen no yellow", P09RestartTest::guardSawNoYellow);
         due.test("the guard counts yellow looks anew", P09RestartTest::guardCountsAnew);
         due.test("all else stays: answers", P09RestartTest::answersStay);
-        due.test("all else stays: times, modes, order, stuck lamps", P09RestartTest::settingsStay);
+        due.test("all else stays: times, modes, stuck lamps", P09RestartTest::settingsStay);
+        due.test("all else stays: who is first", P09RestartTest::orderStays);
         due.end();
     }
 
@@ -245,7 +246,7 @@ final class P09RestartTest {
         due.of(x, 0, 3, 2, 0, 0, 1, 1, 0, 0, 0);
         due.of(x, 2, 3, 0, 1, 0, 0, 0, 0, 1, 0);
         due.of(x, 3, 3, 0, 1, 3, 3, 0, 0, 0, 1);
-        due.of(x, 4, 3, 0, 0, 0, 1, 1, 1, 0, 0);
+        due.of(x, 4, 3, 1, 0, 0, 1, 1, 1, 0, 0);
         due.of(x, 5, 3, 0, 1, 3, 3, 0, 0, 1, 0);
         due.of(x, 6, 3, 0, 1, 0, 0, 0, 1, 0, 1);
         due.is("restart()", x.restart(), 1);
@@ -281,5 +282,22 @@ final class P09RestartTest {
         due.of(x, 1, 2, 2);
         x.run(7);
         due.ring(x, 0, 1, 2, 0, 0, 0, 0, 0);
+    }
+
+    private static void orderStays() {
+        for (int first = 0; first < 8; first += 2) {
+            Desk x = new Desk();
+            due.is("exchange", x.exchange(first / 4, first % 4 / 2), 1);
+            x.stick(0, 2);
+            x.run(1);
+            makeFlash(x, 0);
+            due.is("restart()", x.restart(), 1);
+            for (int p = first % 4; p < 8; p += p % 2 == 0 ? 1 : 3) {
+                x.push(p);
+            }
+            due.is("run(1)", x.run(1), 2);
+            due.is("exchanged", x.ring(first / 4, 0), first + 1);
+            due.is("not exchanged", x.ring(1 - first / 4, 0), first ^ 4);
+        }
     }
 }

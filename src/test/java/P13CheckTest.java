@@ -9,6 +9,7 @@ final class P13CheckTest {
         due.test("1 in every scene, and later", P13CheckTest::inEveryScene);
         due.test("asking changes nothing", P13CheckTest::askingChangesNothing);
         due.test("stuck lamps in each other's way do not count", P13CheckTest::stuckLamps);
+        due.test("a stuck lamp in the way of a green does not count", P13CheckTest::stuckAgainstGreen);
         due.test("1 while flashing", P13CheckTest::whileFlashing);
         due.test("1 with both rings green", P13CheckTest::bothRingsGreen);
         due.test("1 in each tick when all are called always", P13CheckTest::allCalled);
@@ -41,6 +42,21 @@ final class P13CheckTest {
             x.push(4);
             x.run(1);
             due.is("seen once", x.check(), 1);
+        }
+    }
+
+    private static void stuckAgainstGreen() {
+        for (int p = 0; p < 8; p++) {
+            for (int q = 0; q < 8; q++) {
+                Desk x = new Desk();
+                x.stick(p, 2);
+                x.push(q);
+                x.run(1);
+                due.is("green as told", x.ring(q / 4, 1), 1);
+                due.is("check() after a look", x.check(), 1);
+                x.run(1);
+                due.is("check() after two", x.check(), 1);
+            }
         }
     }
 

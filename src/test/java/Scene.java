@@ -9,7 +9,7 @@ final class Scene {
     static final Scene WALKING = new Scene("walking", Scene::walking);
     static final Scene CLEARING = new Scene("clearing", x -> {
         walking(x);
-        x.run(3);
+        x.run(4);
     });
     static final Scene YELLOW = new Scene("yellow with a next one", Scene::yellow);
     static final Scene RED_BEHIND = new Scene("red behind with a next one", x -> {
@@ -117,7 +117,9 @@ final class Scene {
             x.set(p, 5, 3);
             x.set(p, 6, 4);
         }
+        x.set(4, 5, 5);
         x.push(0);
+        x.push(4);
         x.car(4, 1);
         x.run(1);
         x.car(3, 1);
@@ -129,8 +131,8 @@ final class Scene {
     private static void yellow(Desk x) {
         x.push(0);
         x.push(1);
-        x.car(4, 1);
-        x.push(5);
+        x.push(4);
+        x.car(5, 1);
         x.car(7, 1);
         x.run(6);
     }

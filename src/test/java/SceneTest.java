@@ -10,10 +10,12 @@ final class SceneTest {
 
     private static void eachSceneIsWhatItIsCalled() {
         due.state(Scene.NEW.desk(), 0, 0, 0, 0, 0);
-        due.of(Scene.WALKING.desk(), 0, 2, 1);
-        due.of(Scene.CLEARING.desk(), 0, 2, 2);
-        due.ring(Scene.YELLOW.desk(), 0, 0, 2, 0, 0, 0, 0, 1);
-        due.ring(Scene.RED_BEHIND.desk(), 0, 0, 3, 0, 0, 0, 0, 1);
+        for (int p = 0; p <= 4; p += 4) {
+            due.of(Scene.WALKING.desk(), p, 2, 1);
+            due.of(Scene.CLEARING.desk(), p, 2, 2);
+            due.ring(Scene.YELLOW.desk(), p / 4, p, 2, 0, 0, 0, 0, p + 1);
+            due.ring(Scene.RED_BEHIND.desk(), p / 4, p, 3, 0, 0, 0, 0, p + 1);
+        }
         due.state(Scene.CROSSING.desk(), 6, 0, 1, 0, 1);
         due.state(Scene.OTHER_SIDE.desk(), 13, 1, 0, 0, 1);
         due.lights(Scene.OTHER_SIDE.desk(), 0, 0, 2, 0, 0, 0, 2, 0);
